@@ -38,6 +38,14 @@ public final class WoolThreads {
     private static final int TOO_MANY_OR_EARLY = 3;
     private static final int FAULT_LESS = 10;
 
+    private static final int LAW_SHED = 0;
+    private static final int LAW_HOLD = 1;
+    private static final int LAW_WASH = 2;
+    private static final int LAW_PASS = 3;
+    private static final int LAW_TAKE = 4;
+    private static final int LAW_ALIKE = 5;
+    private static final int LAW_COMMON = 6;
+
     private static final int WEAR = 0;
     private static final int BARE = 1;
     private static final int TOUCH = 2;
@@ -667,6 +675,15 @@ public final class WoolThreads {
             return true;
         }
 
+        /** Of two faults at one word the least counts: no such word, ahead of one too many. */
+        void refuseWord(boolean unknown, boolean tooMany) {
+            if (unknown) {
+                fail(CANNOT_STAND, start);
+            } else if (tooMany) {
+                fail(TOO_MANY_OR_EARLY, start);
+            }
+        }
+
         void expectWord(String word) {
             readWord();
             if (!wordIs(word)) {
@@ -765,44 +782,63 @@ public final class WoolThreads {
             clear();
             // every clause has a word's byte, so there are no more rounds than bytes
             for (int i = 0; i <= TAPE_BYTES && tape.hasMore(); i++) {
-                tape.readWord();
                 readClause(tape);
-                tape.expectSemicolon();
-                clauses++;
             }
         }
 
         void readClause(Tape tape) {
-            if (tape.wordIs("shed")) {
-                refuseTooMany(tape);
-                readShed(tape);
-            } else if (tape.wordIs("hold")) {
-                refuseTooMany(tape);
-                readOfSort(tape, hold, WHOLE);
-            } else if (tape.wordIs("wash")) {
-                refuseTooMany(tape);
-                wash = tape.readNumber(0, WHOLE);
-            } else if (tape.wordIs("pass")) {
-                refuseTooMany(tape);
-                pass = tape.readNumber(0, PASS_MOST);
-            } else if (tape.wordIs("take")) {
-                refuseTooMany(tape);
-                take = tape.readNumber(1, WHOLE - 1);
-            } else if (tape.wordIs("alike")) {
-                refuseTooMany(tape);
-                readAlike(tape);
-            } else if (tape.wordIs("common")) {
-                refuseTooMany(tape);
-                readOfSort(tape, common, COMMON_MOST);
-            } else {
-                tape.fail(CANNOT_STAND, tape.start);
+            tape.readWord();
+            int kind = clauseOfWord(tape);
+            tape.refuseWord(kind == NONE, clauses >= CLAUSES_MOST);
+            switch (kind) {
+                case LAW_SHED:
+                    readShed(tape);
+                    break;
+                case LAW_HOLD:
+                    readOfSort(tape, hold, WHOLE);
+                    break;
+                case LAW_WASH:
+                    wash = tape.readNumber(0, WHOLE);
+                    break;
+                case LAW_PASS:
+                    pass = tape.readNumber(0, PASS_MOST);
+                    break;
+                case LAW_TAKE:
+                    take = tape.readNumber(1, WHOLE - 1);
+                    break;
+                case LAW_ALIKE:
+                    readAlike(tape);
+                    break;
+                case LAW_COMMON:
+                    readOfSort(tape, common, COMMON_MOST);
+                    break;
+                default:
+                    break;
             }
+            tape.expectSemicolon();
+            clauses++;
         }
 
-        void refuseTooMany(Tape tape) {
-            if (clauses >= CLAUSES_MOST) {
-                tape.fail(TOO_MANY_OR_EARLY, tape.start);
+        static int clauseOfWord(Tape tape) {
+            if (tape.wordIs("shed")) {
+                return LAW_SHED;
             }
+            if (tape.wordIs("hold")) {
+                return LAW_HOLD;
+            }
+            if (tape.wordIs("wash")) {
+                return LAW_WASH;
+            }
+            if (tape.wordIs("pass")) {
+                return LAW_PASS;
+            }
+            if (tape.wordIs("take")) {
+                return LAW_TAKE;
+            }
+            if (tape.wordIs("alike")) {
+                return LAW_ALIKE;
+            }
+            return tape.wordIs("common") ? LAW_COMMON : NONE;
         }
 
         void readShed(Tape tape) {
@@ -930,12 +966,8 @@ public final class WoolThreads {
 
         void readEvent(Tape tape) {
             tape.readWord();
-            int newKind = kindOfWord(tape);
-            if (newKind == NONE) {
-                tape.fail(CANNOT_STAND, tape.start);
-            } else if (size >= EVENTS_MOST) {
-                tape.fail(TOO_MANY_OR_EARLY, tape.start);
-            }
+            int newKind = eventOfWord(tape);
+            tape.refuseWord(newKind == NONE, size >= EVENTS_MOST);
             int newOne = tape.readNumber(0, PLACES - 1);
             int newTwo = 0;
             if (newKind == WEAR) {
@@ -957,7 +989,7 @@ public final class WoolThreads {
             }
         }
 
-        static int kindOfWord(Tape tape) {
+        static int eventOfWord(Tape tape) {
             if (tape.wordIs("wear")) {
                 return WEAR;
             }
@@ -1048,8 +1080,10 @@ public final class WoolThreads {
                 case WASH:
                     keep(one, law.wash);
                     break;
-                default:
+                case SHAKE:
                     keep(one, two);
+                    break;
+                default:
                     break;
             }
         }

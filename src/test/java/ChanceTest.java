@@ -14,6 +14,7 @@ public final class ChanceTest {
         needed();
         bench();
         signs();
+        signsOfOne();
         wrong();
         Check.end("ChanceTest");
     }
@@ -157,6 +158,35 @@ public final class ChanceTest {
             Check.due("said of worth 2 to " + threads[i], x.said(1, 0), want[i]);
             Check.due("said the other way", x.said(0, 1), 0);
         }
+        dueLine(9, 0);
+        dueLine(10, 1);
+        dueLine(11, 1);
+        dueLine(999, 1);
+        dueLine(1000, 2);
+        dueLine(1001, 2);
+    }
+
+    /** Looks for two piles and a find by which one is just so many times as likely as the other. */
+    private static void dueLine(int worth, int said) {
+        for (int take = 1; take <= 15; take++) {
+            for (int many = 0; many <= 60; many++) {
+                for (int one = many; one <= 60; one++) {
+                    for (int two = many; two <= 60; two++) {
+                        BigInteger above = chance(one, many, take).shiftLeft(4 * two);
+                        BigInteger below = chance(two, many, take).shiftLeft(4 * one);
+                        if (above.divide(below).equals(BigInteger.valueOf(worth))) {
+                            WoolThreads x = Check.with("shed 0 0 " + one + ";shed 1 0 " + two + ";take " + take + ";",
+                                "wear 0 0 at 0;touch 0 1 at 0;", "wear 0 1 at 0;touch 0 1 at 0;");
+                            x.find(1, 0, 0, many);
+                            Check.due("worth at the line " + worth, x.worth(0, 1), worth);
+                            Check.due("said at the line " + worth, x.said(0, 1), said);
+                            return;
+                        }
+                    }
+                }
+            }
+        }
+        Check.due("a case of worth " + worth, 0, 1);
     }
 
     private static void parts() {
@@ -198,6 +228,10 @@ public final class ChanceTest {
         x.find(2, 9, 0, 4);
         Check.due("needed 3 of three finds", x.needed(0, 3), 4);
         Check.due("needed 4 of three finds", x.needed(0, 4), -1);
+        WoolThreads first = Check.with("shed 0 0 4;", "wear 0 0 at 0;touch 0 1 at 0;");
+        first.find(1, 0, 0, 1);
+        Check.due("the first event is needed", first.needed(0, 0), 0);
+        Check.due("the second, too", first.needed(0, 1), 1);
         Check.due("needed -1", x.needed(0, -1), -1);
         Check.due("needed of the greatest k", x.needed(0, Integer.MAX_VALUE), -1);
         Check.due("needed of the least k", x.needed(0, Integer.MIN_VALUE), -1);
@@ -222,6 +256,10 @@ public final class ChanceTest {
         x.find(1, 5, 0, 0);
         // half of four go over to 2: four times as likely
         Check.due("bench of more", x.bench(0, 2, 1, 5), 4);
+        WoolThreads later = Check.with("shed 0 0 4;pass 8;wash 16;", "wear 0 0 at 1;touch 1 2 at 3;");
+        later.find(2, 3, 0, 2);
+        Check.due("bench ahead of a touch", later.bench(0, 0, 1, 2), 1000000);
+        Check.due("bench behind it", later.bench(0, 0, 1, 3), 0);
         WoolThreads full = Check.with("shed 0 0 4;", "wear 0 0 at 0;" + Check.times("bare 2 at 3;", 19));
         full.find(1, 9, 0, 4);
         Check.due("bench of a full story at 0", full.bench(0, 0, 1, 0), 1000000);
@@ -246,6 +284,13 @@ public final class ChanceTest {
         for (int event : new int[] {1, 3, 6, 8}) {
             Check.due("signs of no touch", x.signs(0, event), 0);
         }
+    }
+
+    private static void signsOfOne() {
+        WoolThreads x = Check.with("shed 3 0 1;", "wear 0 3 at 0;touch 0 1 at 0;touch 1 0 at 0;");
+        x.find(1, 0, 0, 1);
+        Check.due("signs of one thread", x.signs(0, 1), 1);
+        Check.due("signs of one thread the other way", x.signs(0, 2), 2);
     }
 
     private static void dueSigns(WoolThreads x, int[] touches, int[] want) {

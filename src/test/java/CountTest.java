@@ -101,6 +101,13 @@ public final class CountTest {
         Check.due("rare(3, 0)", x.rare(3, 0), 1000001000 / 1000003);
         Check.due("rare(3, 1)", x.rare(3, 1), 333);
         Check.due("rare(3, 2)", x.rare(3, 2), 1000);
+        WoolThreads falling = new WoolThreads();
+        falling.shop(0, 9, 10);
+        falling.shop(0, 5, 10);
+        falling.shop(0, 7, 10);
+        Check.due("rare(0, 0) of three", falling.rare(0, 0), 700);
+        Check.due("rare(0, 1) of three", falling.rare(0, 1), 500);
+        Check.due("rare(0, 2) of three", falling.rare(0, 2), 900);
         Check.due("rare(4, 0)", x.rare(4, 0), 0);
         Check.due("rare(4, 1)", x.rare(4, 1), 0);
         Check.due("rare(4, 2)", x.rare(4, 2), 0);
@@ -147,6 +154,8 @@ public final class CountTest {
         x.find(1, 3, 1, 9);
         Check.due("looked at all that differ", x.next(0, 1, 3), -1);
         Check.due("an hour later", x.next(0, 1, 4), 1217);
+        WoolThreads one = Check.with("shed 0 0 1;", "wear 1 0 at 0;touch 1 0 at 0;", "");
+        Check.due("a difference of one on place 0", one.next(0, 1, 0), 100);
         WoolThreads full = Check.with("shed 0 9 200;common 9 20;", "wear 0 0 at 0;touch 0 9 at 0;", "");
         Check.due("piles have 60 at most", full.next(0, 1, 99), 4099);
         WoolThreads most = Check.with("shed 0 9 200;", "wear 0 0 at 0;touch 0 9 at 0;", "");

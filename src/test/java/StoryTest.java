@@ -56,6 +56,11 @@ public final class StoryTest {
         WoolThreads none = Check.with("shed 0 0 100;hold 0 0;", "wear 0 0 at 3;touch 0 1 at 3;");
         dueLies(none, 1, 0, 3, 100);
         dueLies(none, 1, 0, 4, 0);
+        WoolThreads first = Check.with("shed 0 0 100;hold 0 8;", "wear 9 0 at 0;touch 9 0 at 0;touch 9 8 at 0;");
+        dueLies(first, 0, 0, 0, 100);
+        dueLies(first, 0, 0, 1, 50);
+        dueLies(first, 8, 0, 3, 12);
+        dueLies(first, 0, 0, 99, 0);
         WoolThreads washed = Check.with("shed 0 0 100;", "wear 0 0 at 3;touch 0 1 at 3;wash 1 at 3;wash 0 at 3;");
         dueLies(washed, 1, 0, 3, 0);
         WoolThreads shaken = Check.with("shed 0 0 100;", "wear 0 0 at 3;touch 0 1 at 3;shake 1 16 at 3;shake 1 0 at 4;");
@@ -124,6 +129,10 @@ public final class StoryTest {
         Check.due("byWay of 3", x.byWay(0, 0, 1, 3, 0, 1), 0);
         Check.due("byWay from 2 to 3 by 1", x.byWay(0, 2, 3, 1, 0, 1), 1);
         Check.due("the story stays", x.lies(0, 1, 0, 0), 16);
+        WoolThreads bare = Check.with("shed 0 0 16;", "wear 0 0 at 0;touch 0 1 at 0;", "touch 0 1 at 0;touch 0 2 at 0;");
+        bare.counts(0, 1);
+        Check.due("byWay of a story behind another", bare.byWay(1, 0, 2, 1, 0, 0), 0);
+        Check.due("byWay of it on 1", bare.byWay(1, 2, 1, 0, 0, 0), 0);
         Check.due("events(0)", x.events(0), 9);
     }
 

@@ -7,6 +7,7 @@ public final class TextTest {
         lawNumbers();
         lawFaults();
         stories();
+        storyBehindFault();
         storyFaults();
         lengths();
         fourStories();
@@ -77,6 +78,13 @@ public final class TextTest {
         Check.due("take is gone", x.told(1, 4), 8);
         Check.due("alike is gone", x.alike(1), 2);
         Check.due("shed is gone", x.sheds(1, 1), 0);
+        Check.law(x, "wash 5;common 3 4;shed 2 2 2;hold 4 5;pass 3;take 9;");
+        Check.law(x, "");
+        String empty = State.of(new WoolThreads());
+        Check.dueText("an empty law behind some", State.of(x), empty);
+        Check.law(x, "wash 5;common 3 4;shed 2 2 2;hold 4 5;pass 3;take 9;alike 1 2;?");
+        Check.law(x, "");
+        Check.dueText("an empty law behind one at fault", State.of(x), empty);
         Check.feed(x, "take 5;take 6;");
         Check.due("only the first bytes", x.law(7), 1);
         Check.due("take of them", x.told(0, 4), 5);
@@ -108,6 +116,10 @@ public final class TextTest {
         Check.dueLawFault("she 0 0 0;", 1, 0);
         Check.dueLawFault("  touch 0 1 at 2;", 1, 2);
         Check.dueLawFault("Shed 0 0 0;", 1, 0);
+        Check.dueLawFault("mash 1;", 1, 0);
+        Check.dueLawFault("wasp 1;", 1, 0);
+        Check.dueLawFault("commons 1 1;", 1, 0);
+        Check.dueLawFault("commoncommoncommon 1 1;", 1, 0);
         Check.dueLawFault(";", 1, 0);
         Check.dueLawFault("wash 1;;", 1, 7);
         Check.dueLawFault("wash 1; ;", 1, 8);
@@ -133,6 +145,10 @@ public final class TextTest {
         Check.dueLawFault(Check.times("take 7;", 24) + "  wash 17;", 3, 170);
         Check.dueLawFault(Check.times("take 7;", 24) + "walk 17;", 1, 168);
         Check.dueLawFault(Check.times("take 7;", 24) + ";", 1, 168);
+        for (String clause : new String[] {"shed 0 0 0;", "hold 0 0;", "wash 0;", "pass 0;", "take 1;", "alike 0 1;", "common 0 0;"}) {
+            Check.dueLaw(Check.times("take 7;", 23) + clause, 24);
+            Check.dueLawFault(Check.times("take 7;", 24) + clause, 3, 168);
+        }
         Check.dueLawFault(Check.times("take 7;", 23) + "take 77;take 7;", 2, 166);
     }
 
@@ -145,6 +161,18 @@ public final class TextTest {
         Check.dueStory("wash 1 at 007;wash 1 at 7;wash 1 at 8;", 3);
         Check.dueStory(Check.times("bare 0 at 1;", 20), 20);
         Check.dueStory(Check.times("bare 0 at 1;", 20) + Check.times(" ", 60), 20);
+    }
+
+    private static void storyBehindFault() {
+        WoolThreads x = Check.with("shed 0 0 5;");
+        Check.due("a story at fault behind its second event", Check.story(x, "wear 0 0 at 0;touch 0 1 at 0;?"), -9);
+        Check.due("a story behind it", Check.story(x, "touch 0 1 at 0;"), 0);
+        Check.due("its events", x.events(0), 1);
+        Check.due("what lies by it", x.lies(0, 1, 0, 0), 0);
+        Check.due("another one", Check.story(x, "wear 0 0 at 0;touch 0 2 at 0;"), 1);
+        Check.due("events of the first", x.events(0), 1);
+        Check.due("events of the other", x.events(1), 2);
+        Check.due("what lies by the other", x.lies(1, 2, 0, 0), 5);
     }
 
     private static void storyFaults() {
@@ -169,6 +197,14 @@ public final class TextTest {
         Check.dueStoryFault("wear 0 at 1;", 1, 7);
         Check.dueStoryFault("bare 0 0 at 1;", 1, 7);
         Check.dueStoryFault("at 1;", 1, 0);
+        Check.dueStoryFault("bear 0 0 at 1;", 1, 0);
+        Check.dueStoryFault("couch 0 1 at 1;", 1, 0);
+        Check.dueStoryFault("bare 0 it 1;", 1, 7);
+        for (String event : new String[] {"wear 0 0", "bare 0", "touch 0 1", "wash 0", "shake 0 0"}) {
+            Check.dueStory(Check.times("bare 0 at 1;", 19) + event + " at 1;", 20);
+            Check.dueStoryFault(Check.times("bare 0 at 1;", 20) + event + " at 1;", 3, 240);
+            Check.dueStoryFault("bare 0 at 1;" + event + " at 0;", 3, 12 + event.length() + 4);
+        }
         Check.dueStoryFault("bare 0 at 5;bare 0 at 4;", 3, 22);
         Check.dueStoryFault("bare 0 at 5;bare 0 at 4", 3, 22);
         Check.dueStoryFault("bare 0 at 5;bare 0 at 100;", 2, 22);
