@@ -66,7 +66,6 @@ public final class WoolThreads {
     private Story draftStory;
     private int storyCount;
     private int imageCount;
-    private int faultPlace;
 
     public WoolThreads() {
         tape = new Tape();
@@ -87,7 +86,6 @@ public final class WoolThreads {
         otherRun = new Run(law, varied);
         piles = new int[FINDS_MOST];
         balance = new Balance();
-        faultPlace = NONE;
     }
 
     // ---- texts
@@ -107,7 +105,6 @@ public final class WoolThreads {
     public int law(int n) throws IllegalArgumentException {
         openText(n, TAPE_BYTES);
         draftLaw.readFrom(tape);
-        faultPlace = tape.faultPlace;
         if (tape.failed()) {
             return tape.faultKind - FAULT_LESS;
         }
@@ -120,7 +117,6 @@ public final class WoolThreads {
     public int story(int n) throws IllegalArgumentException {
         openText(n, STORY_BYTES);
         draftStory.readFrom(tape);
-        faultPlace = tape.faultPlace;
         if (tape.failed()) {
             return tape.faultKind - FAULT_LESS;
         }
@@ -135,7 +131,7 @@ public final class WoolThreads {
     }
 
     public int fault() {
-        return faultPlace;
+        return tape.faultPlace;
     }
 
     private void openText(int length, int most) {

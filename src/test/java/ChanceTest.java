@@ -15,6 +15,7 @@ public final class ChanceTest {
         bench();
         signs();
         signsOfOne();
+        nothingIsLeft();
         wrong();
         Check.end("ChanceTest");
     }
@@ -122,6 +123,7 @@ public final class ChanceTest {
         Check.due("weighed(1, 0)", x.weighed(1, 0), -1);
         Check.due("weighed(0, 0)", x.weighed(0, 0), 0);
         Check.due("weighed(2, 0)", x.weighed(2, 0), -1);
+        Check.due("weighed(0, 2)", x.weighed(0, 2), 1);
         Check.due("worth(0, 1)", x.worth(0, 1), 1);
         Check.due("worth(1, 0)", x.worth(1, 0), 0);
         Check.due("worth(0, 2)", x.worth(0, 2), 1000000);
@@ -291,6 +293,27 @@ public final class ChanceTest {
         x.find(1, 0, 0, 1);
         Check.due("signs of one thread", x.signs(0, 1), 1);
         Check.due("signs of one thread the other way", x.signs(0, 2), 2);
+    }
+
+    /** What was taken back, and the stories that were varied for a call ahead, must leave nothing. */
+    private static void nothingIsLeft() {
+        WoolThreads x = Check.with("shed 0 0 4;", "wear 0 0 at 0;touch 0 1 at 0;", "touch 0 1 at 0;");
+        x.find(1, 0, 0, 2);
+        x.bench(0, 2, 3, 50);
+        Check.due("counts behind a bench", x.counts(0, 1), 1000000);
+        Check.due("needed behind a bench", x.needed(0, 1), 1);
+        Check.due("bench behind all", x.bench(1, 1, 2, 0), 0);
+        x.find(1, 0, 0, 5);
+        Check.due("not likely", x.needed(0, 0), -1);
+        x.drop(1);
+        Check.due("likely again", x.needed(0, 0), 0);
+        Check.due("signs of the find", x.signs(0, 1), 1);
+        x.drop(0);
+        Check.due("signs of none", x.signs(0, 1), 0);
+        Check.due("needed of none", x.needed(0, 0), -1);
+        Check.due("digits of none", x.digits(0), 1);
+        Check.due("digit of none", x.digit(0, 0), 1);
+        Check.due("scale of none", x.scale(0), 0);
     }
 
     private static void dueSigns(WoolThreads x, int[] touches, int[] want) {

@@ -112,6 +112,8 @@ public final class FindTest {
         Check.due("seats at last", x.count(3), 1);
         Check.due("shops at last", x.count(4), 1);
         Check.due("rare(1, 0) at last", x.rare(1, 0), 100);
+        Check.due("rare(1, 1) at last", x.rare(1, 1), 100);
+        Check.due("rare(1, 2) at last", x.rare(1, 2), 100);
         Check.due("share(1) at last", x.share(1), 0);
         Check.due("restore of none", x.restore(), -1);
         Check.due("count(5) at last", x.count(5), 0);

@@ -11,6 +11,9 @@ public final class ModelTest {
 
     private static final List<Method> FACE = face();
 
+    private static int calls = 0;
+    private static int thrown = 0;
+
     private final Random random;
     private final WoolThreads x = new WoolThreads();
     private final Model model = new Model();
@@ -33,6 +36,7 @@ public final class ModelTest {
             }
         }
         Check.due("runs that differ from the model", failed, 0);
+        System.out.println("ModelTest: " + calls + " calls, " + thrown + " of them with an exception");
         Check.end("ModelTest");
     }
 
@@ -138,6 +142,8 @@ public final class ModelTest {
         String got = answer(x, WoolThreads.class.getDeclaredMethod(name, types), arguments);
         String want = answer(model, Model.class.getDeclaredMethod(name, types), arguments);
         told.add(name + java.util.Arrays.toString(arguments) + " answered " + got + ", due is " + want);
+        calls++;
+        thrown += want.startsWith("throws.") ? 1 : 0;
         wrong |= !got.equals(want);
     }
 

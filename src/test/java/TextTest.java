@@ -87,6 +87,16 @@ public final class TextTest {
         Check.dueText("an empty law behind one at fault", State.of(x), empty);
         Check.feed(x, "take 5;take 6;");
         Check.due("only the first bytes", x.law(7), 1);
+        Check.feed(x, "take 5;take 6;");
+        Check.due("not the byte behind them", x.law(6), -9);
+        Check.due("the text ends there", x.fault(), 6);
+        Check.feed(x, "take 15;");
+        Check.due("not the digit behind them", x.law(6), -9);
+        Check.feed(x, "bare 0 at 1;");
+        Check.due("nor of a story", x.story(11), -9);
+        Check.due("which ends there", x.fault(), 11);
+        Check.feed(x, "take 5;    ?");
+        Check.due("blanks at the end alone", x.law(11), 1);
         Check.due("take of them", x.told(0, 4), 5);
         Check.due("the rest is gone, too", x.count(6), 0);
     }
