@@ -116,12 +116,13 @@ public final class WoolThreads {
 
     public int story(int n) throws IllegalArgumentException {
         openText(n, STORY_BYTES);
+        // a text that can't become a story has no fault either, so it is not read
+        if (!within(storyCount, STORIES_MOST)) {
+            return NONE;
+        }
         draftStory.readFrom(tape);
         if (tape.failed()) {
             return tape.faultKind - FAULT_LESS;
-        }
-        if (!within(storyCount, STORIES_MOST)) {
-            return NONE;
         }
         Story unused = stories[storyCount];
         stories[storyCount] = draftStory;

@@ -11,6 +11,7 @@ public final class TextTest {
         storyFaults();
         lengths();
         fourStories();
+        faultyFifthStory();
         faults();
         counts();
         Check.end("TextTest");
@@ -263,6 +264,32 @@ public final class TextTest {
         Check.nse(x, "events(4)", () -> x.events(4));
         Check.feed(x, " ");
         Check.iae(x, "story(21) of four", () -> x.story(21));
+        Check.iae(x, "story(-1) of four", () -> x.story(-1));
+        Check.due("the tape stays of four", x.count(6), 20);
+        Check.feed(x, Check.times(" ", 300));
+        Check.iae(x, "story(301) of four", () -> x.story(301));
+    }
+
+    /** A fifth text becomes no story, so none of its faults is told, nor one of a text ahead of it. */
+    private static void faultyFifthStory() {
+        String[] faulty = {"?", "bare", "bare 10 at 1;", "bare 0 at 2;bare 0 at 1;", Check.times("bare 0 at 1;", 21)};
+        int[] kinds = {-9, -9, -8, -7, -7};
+        int[] places = {0, 4, 5, 22, 240};
+        for (int i = 0; i < faulty.length; i++) {
+            WoolThreads x = Check.with("take 3;", "", "", "");
+            Check.due("a faulty fourth: " + faulty[i], Check.story(x, faulty[i]), kinds[i]);
+            Check.due("its fault: " + faulty[i], x.fault(), places[i]);
+            Check.due("a good fourth", Check.story(x, "bare 0 at 1;"), 3);
+            Check.due("a faulty fifth: " + faulty[i], Check.story(x, faulty[i]), -1);
+            Check.due("its fault: " + faulty[i], x.fault(), -1);
+            Check.due("the tape is empty", x.count(6), 0);
+            Check.due("count(1)", x.count(1), 4);
+            Check.due("events(3)", x.events(3), 1);
+            Check.due("a faulty law of four stories", Check.law(x, "take 0;"), -8);
+            Check.due("its fault", x.fault(), 5);
+            Check.due("a faulty fifth behind it: " + faulty[i], Check.story(x, faulty[i]), -1);
+            Check.due("the law's fault is none of the latest", x.fault(), -1);
+        }
     }
 
     private static void faults() {

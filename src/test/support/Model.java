@@ -209,15 +209,15 @@ final class Model {
 
     int story(int n) {
         String text = text(n, 300);
+        if (stories.size() == 4) {
+            return -1;
+        }
         List<Event> read;
         try {
             read = storyOf(text);
         } catch (Fault f) {
             fault = f.place;
             return f.kind - 10;
-        }
-        if (stories.size() == 4) {
-            return -1;
         }
         stories.add(read);
         return stories.size() - 1;
