@@ -1,13 +1,52 @@
+import java.io.IOException;
+import java.io.UncheckedIOException;
+import java.nio.file.Files;
+import java.nio.file.Path;
+
 /** What the tests share: due answers, due exceptions that change nothing, and texts that are fed. */
 final class Check {
     interface Call {
         int answer();
     }
 
+    /** A call of which one argument is looked at. */
+    interface Of {
+        int answer(int argument);
+    }
+
+    /** Just what no argument that counts from 0 on may be, whatever its bound. */
+    static final int[] FAR = {-1, Integer.MAX_VALUE, Integer.MIN_VALUE};
+
+    private static final String DOCUMENT = document();
+
     private static int asked = 0;
     private static int wrong = 0;
 
     private Check() {
+    }
+
+    static String document() {
+        try {
+            return Files.readString(Path.of("../shared/DOC.md"));
+        } catch (IOException e) {
+            throw new UncheckedIOException(e);
+        }
+    }
+
+    /** The words of the document that the answers behind this call hold; SentencesTest looks that none is left out. */
+    static void sentence(String words) {
+        due("the document says: " + words, DOCUMENT.contains(words) ? 1 : 0, 1);
+    }
+
+    /** The same for words under the heading of a promise. */
+    static void promise(int number, String words) {
+        due("promise " + number + " says: " + words, section(DOCUMENT, number).contains(words) ? 1 : 0, 1);
+    }
+
+    static String section(String document, int number) {
+        String heading = "## Promise " + number + ":";
+        int from = document.indexOf(heading);
+        return from < 0 ? "" : document.substring(from, document.indexOf("\n## ", from));
     }
 
     static void due(String call, long got, long want) {
@@ -37,6 +76,33 @@ final class Check {
         }
         dueText(call + " throws", got, want.getName());
         dueText(call + " changes nothing", State.of(x), before);
+    }
+
+    /** An argument that may be low to high: answered at both ends and just within, refused just beyond and far off. */
+    static void bounds(WoolThreads x, String call, Class<? extends RuntimeException> want, int low, int high, Of of) {
+        for (int argument : new int[] {low, Math.min(low + 1, high), Math.max(high - 1, low), high}) {
+            due(call + " answers at " + argument, answers(() -> of.answer(argument)) ? 1 : 0, 1);
+        }
+        for (int argument : new int[] {low - 1, high + 1, Integer.MIN_VALUE, Integer.MAX_VALUE}) {
+            dueThrow(x, call + " at " + argument, want, () -> of.answer(argument));
+        }
+    }
+
+    static void iaeBeyond(WoolThreads x, String call, int high, Of of) {
+        bounds(x, call, IllegalArgumentException.class, 0, high, of);
+    }
+
+    static void nseBeyond(WoolThreads x, String call, Of of) {
+        bounds(x, call, java.util.NoSuchElementException.class, 0, x.count(1) - 1, of);
+    }
+
+    private static boolean answers(Call call) {
+        try {
+            call.answer();
+            return true;
+        } catch (RuntimeException e) {
+            return false;
+        }
     }
 
     static void iae(WoolThreads x, String call, Call thrown) {
