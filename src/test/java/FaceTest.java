@@ -328,6 +328,11 @@ public final class FaceTest {
         return "";
     }
 
+    private static String declared(String name) {
+        Matcher m = Pattern.compile("public int " + name + "\\([^)]*\\)( throws [^;]*)?;").matcher(Check.document());
+        return m.find() && m.group(1) != null ? m.group(1) : "";
+    }
+
     private static void ask(int filled, String name, Object[] arguments, String before) {
         String call = name + java.util.Arrays.toString(arguments) + " of one filled by " + filled;
         FaceTest real = made(filled);
@@ -340,6 +345,7 @@ public final class FaceTest {
             Check.dueText("what is seen behind " + call, real.drained(), model.drained());
         } else {
             Check.dueText(call, got, thrown);
+            Check.due("the face names what " + name + " throws", declared(name).contains(got.substring("throws.".length())) ? 1 : 0, 1);
             Check.dueText("what is seen behind " + call, real.drained(), before);
         }
     }

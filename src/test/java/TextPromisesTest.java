@@ -5,8 +5,11 @@ public final class TextPromisesTest {
         promise1();
         promise2();
         promise3();
+        firstBytesOfALaw();
+        nothingOfLawsAhead();
         promise3Refused();
         promise4();
+        firstBytesOfAStory();
         promise4Refused();
         promise5();
         promise6();
@@ -90,6 +93,46 @@ public final class TextPromisesTest {
         Check.due("so is the find", y.scale(0), 6);
     }
 
+    /** What stands on the tape behind the first n bytes is no part of the text, whatever it is. */
+    private static void firstBytesOfALaw() {
+        String text = "wash 16;wash 3;";
+        int[] clauses = {0, -9, -9, -9, -9, -9, -9, -9, 1, -9, -9, -9, -9, -9, -9, 2};
+        int[] faults = {-1, 0, 0, 0, 4, 5, 6, 7, -1, 8, 8, 8, 12, 13, 14, -1};
+        for (int n = 0; n <= text.length(); n++) {
+            WoolThreads x = Check.with("wash 9;");
+            Check.feed(x, text);
+            Check.due("law(" + n + ") of " + text, x.law(n), clauses[n]);
+            Check.due("its fault", x.fault(), faults[n]);
+            Check.due("the law then", x.told(0, 2), clauses[n] < 0 ? 9 : clauses[n] == 0 ? 0 : clauses[n] == 1 ? 16 : 3);
+        }
+        WoolThreads x = new WoolThreads();
+        Check.feed(x, "wash 1;    ?");
+        Check.due("blanks ahead of what is no part", x.law(11), 1);
+        Check.feed(x, "wash 1;wash 2;wash 3");
+        x.law(14);
+        Check.feed(x, "wash 4");
+        Check.due("nothing of the tape ahead", x.law(7), -9);
+        Check.due("its fault", x.fault(), 6);
+    }
+
+    private static void nothingOfLawsAhead() {
+        String all = "shed 1 2 3;hold 1 2;common 1 2;wash 1;pass 1;take 1;alike 1 2;";
+        String empty = State.of(new WoolThreads());
+        WoolThreads x = new WoolThreads();
+        for (String ahead : new String[] {all, all + "?", all + all + all}) {
+            for (int i = 0; i < 3; i++) {
+                Check.law(x, ahead);
+                Check.law(x, "");
+                Check.dueText("an empty law behind " + ahead, State.of(x), empty);
+            }
+        }
+        Check.law(x, all);
+        Check.law(x, all + "take 16;");
+        Check.law(x, "take 2;");
+        WoolThreads two = Check.with("take 2;");
+        Check.dueText("another law behind one at fault", State.of(x), State.of(two));
+    }
+
     private static void promise3Refused() {
         Check.promise(3, "IllegalArgumentException: n is not 0 to the TAPE's bytes (it stays).");
         WoolThreads x = Check.with("take 3;", "bare 0 at 1;");
@@ -135,6 +178,27 @@ public final class TextPromisesTest {
             for (int number = 0; number < 4; number++) {
                 Check.due("events(" + number + ")", x.events(number), number);
             }
+        }
+    }
+
+    private static void firstBytesOfAStory() {
+        String text = "bare 0 at 12;bare 1 at 3";
+        int[] numbers = {0, -9, -9, -9, -9, -9, -9, -9, -9, -9, -9, -9, -9, 0, -9};
+        int[] faults = {-1, 0, 0, 0, 4, 5, 6, 7, 7, 9, 10, 11, 12, -1, 13};
+        for (int n = 0; n < numbers.length; n++) {
+            WoolThreads x = new WoolThreads();
+            Check.feed(x, text);
+            Check.due("story(" + n + ") of " + text, x.story(n), numbers[n]);
+            Check.due("its fault", x.fault(), faults[n]);
+            Check.due("stories then", x.count(1), numbers[n] + 1 > 0 ? 1 : 0);
+        }
+        // nothing of a story at fault goes into the next one
+        WoolThreads x = new WoolThreads();
+        Check.story(x, "wear 0 0 at 0;wear 1 1 at 1;wear 2 2 at 2;?");
+        Check.due("a story behind it", Check.story(x, "wear 5 5 at 9;"), 0);
+        Check.due("its events", x.events(0), 1);
+        for (int place = 0; place < 10; place++) {
+            Check.due("what is worn by it on " + place, x.wears(0, place, 99), place == 5 ? 5 : -1);
         }
     }
 

@@ -9,6 +9,7 @@ public final class WeighingTest {
         finds();
         findsAlike();
         likely();
+        pilesAtTheirHours();
         number();
         weighed();
         worthOfHalves();
@@ -18,6 +19,7 @@ public final class WeighingTest {
         partOfEvent();
         needed();
         byWay();
+        byWayOfNoFourth();
         bench();
         benchOfFullStory();
         Check.end("WeighingTest");
@@ -104,6 +106,30 @@ public final class WeighingTest {
             dueNumber(many + " of 60", half, 0, chance(60, many, 8));
             half.drop(0);
         }
+    }
+
+    /** Each find is of its own hour's pile: what is lost by then, is lost once. */
+    private static void pilesAtTheirHours() {
+        WoolThreads x = Check.with("shed 0 0 60;hold 0 8;", "wear 0 0 at 2;touch 0 1 at 2;touch 0 2 at 4;", "");
+        int[] first = {0, 0, 60, 30, 15, 7, 3, 1, 0};
+        int[] second = {0, 0, 0, 0, 60, 30, 15, 7, 3};
+        for (int hour = first.length - 1; hour >= 0; hour--) {
+            x.find(1, hour, 0, 0);
+            x.find(2, hour, 0, 0);
+            Check.due("both piles at " + hour, x.scale(0), first[hour] + second[hour]);
+            x.drop(1);
+            Check.due("the first pile at " + hour, x.scale(0), first[hour]);
+            x.drop(0);
+        }
+        int all = 0;
+        for (int hour : new int[] {7, 2, 99, 5, 0, 3, 6, 4}) {
+            x.find(1, hour, 0, 0);
+            all += hour < first.length ? first[hour] : 0;
+            Check.due("piles of all finds so far", x.scale(0), all);
+        }
+        Check.due("the part of the find at 7", x.part(1, 0, 0), 2);
+        Check.due("the part of the find at 99", x.part(1, 0, 2), 1);
+        Check.due("the part of the find at 6", x.part(1, 0, 6), 8);
     }
 
     private static void number() {
@@ -344,6 +370,27 @@ public final class WeighingTest {
         Check.due("byWay of no events", none.byWay(0, 0, 1, 2, 0, 99), 0);
         WoolThreads full = Check.with(law, "wear 0 0 at 0;" + "touch 0 1 at 0;".repeat(17) + "touch 0 2 at 0;touch 1 2 at 0;");
         Check.due("byWay of twenty events", full.byWay(0, 0, 1, 2, 0, 0), 8);
+    }
+
+    /** A touch of the third and a fourth, or of two that are not the third, is left out whichever is told first. */
+    private static void byWayOfNoFourth() {
+        String wears = "wear 3 0 at 0;wear 0 1 at 0;";
+        String[] touches = {"touch 3 2", "touch 2 3", "touch 3 1", "touch 1 3", "touch 0 1", "touch 1 0", "touch 3 0", "touch 0 3", "touch 0 2", "touch 2 0"};
+        int[] reached = {0, 0, 0, 0, 0, 0, 0, 0, 1, 1};
+        for (String last : new String[] {"touch 2 1", "touch 1 2"}) {
+            for (int i = 0; i < touches.length; i++) {
+                WoolThreads x = Check.with("shed 0 0 16;shed 1 0 2;pass 8;", wears + touches[i] + " at 0;" + last + " at 0;", "");
+                Check.due("byWay with " + touches[i] + " and " + last, x.byWay(0, 0, 1, 2, 0, 0), reached[i]);
+                // the row of events that was varied leaves nothing for another story
+                Check.due("byWay of no events behind it", x.byWay(1, 0, 1, 2, 0, 0), 0);
+            }
+        }
+        WoolThreads x = Check.with("shed 0 0 16;", "wear 0 0 at 0;touch 0 1 at 0;", "touch 0 1 at 0;touch 2 1 at 0;");
+        x.counts(0, 1);
+        Check.due("byWay behind counts", x.byWay(1, 2, 1, 0, 0, 0), 0);
+        x.bench(0, 0, 1, 0);
+        Check.due("byWay behind a bench", x.byWay(1, 2, 1, 0, 0, 0), 0);
+        Check.due("byWay of it", x.byWay(0, 2, 1, 0, 0, 0), 16);
     }
 
     private static void bench() {
