@@ -173,7 +173,7 @@ public final class RunningTest {
         due(last, 2, 0, 99, 16);
     }
 
-    /** Twenty events bring 3,800 threads on one place at most by shedding, so 9,999 is out of reach: nothing is cut here. */
+    /** Eighteen touches of two that wear something shed 7,200 threads in all, so 9,999 is out of reach: nothing is cut. */
     private static void most() {
         Check.sentence("9,999 at most of each at any time).");
         WoolThreads x = Check.with("shed 0 0 200;", "wear 0 0 at 0;" + "touch 0 1 at 0;".repeat(19));
