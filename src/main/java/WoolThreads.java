@@ -325,7 +325,7 @@ public final class WoolThreads {
         Finds finds = evidence.finds;
         int last = finds.lastHour();
         run.begin(law, told);
-        for (int hour = 0; hour <= last; hour++) {
+        for (int hour = 0; hour <= last && hour < HOURS; hour++) {
             run.goTo(hour);
             for (int i = 0; i < finds.size && i < FINDS_MOST; i++) {
                 if (finds.hour[i] == hour) {

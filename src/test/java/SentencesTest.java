@@ -6,7 +6,10 @@ import java.util.regex.Matcher;
 import java.util.regex.Pattern;
 import java.util.stream.Stream;
 
-/** Every word of the document from "Terms" to promise 37 stands in a sentence that some test quotes, ahead of what it asks. */
+/**
+ * Every word of the document, from its first line to its last, stands in a sentence that some test quotes, ahead of what it
+ * asks. The face is no sentence: LanguageTest and FaceTest read it.
+ */
 public final class SentencesTest {
     private static final Pattern QUOTE = Pattern.compile("Check\\.(?:sentence\\(|promise\\(([0-9]+), )\"((?:[^\"\\\\]|\\\\.)*)\"\\)");
 
@@ -32,9 +35,17 @@ public final class SentencesTest {
         }
     }
 
-    /** Words of a promise count under its heading alone, others ahead of all promises. */
+    /** Words of a promise count under its heading alone, others ahead of all promises and behind them. */
     private static void mark(String document, boolean[] quoted, String promise, String words) {
-        String part = promise == null ? document.substring(0, document.indexOf("## Promise 1:")) : Check.section(document, Integer.parseInt(promise));
+        if (promise != null) {
+            markIn(document, quoted, Check.section(document, Integer.parseInt(promise)), words);
+            return;
+        }
+        markIn(document, quoted, document.substring(0, document.indexOf("## Promise 1:")), words);
+        markIn(document, quoted, document.substring(document.indexOf("## Not promised")), words);
+    }
+
+    private static void markIn(String document, boolean[] quoted, String part, String words) {
         int begin = document.indexOf(part);
         int at = part.indexOf(words);
         if (at >= 0) {
@@ -43,12 +54,14 @@ public final class SentencesTest {
     }
 
     private static void lines(String document, boolean[] quoted) {
-        int from = document.indexOf("## Terms");
-        int to = document.indexOf("## Not promised");
-        Check.due("the document has both ends", from >= 0 && to > from ? 1 : 0, 1);
-        int at = from;
-        for (String line : document.substring(from, to).split("\n")) {
-            if (!line.startsWith("#") && !line.startsWith("```")) {
+        Check.due("the document begins with its name", document.startsWith("# WoolThreads\n") ? 1 : 0, 1);
+        Check.due("the document ends with what is not promised", document.indexOf("\n## ", document.indexOf("## Not promised")), -1);
+        int at = 0;
+        boolean inFace = false;
+        for (String line : document.split("\n")) {
+            if (line.startsWith("```")) {
+                inFace = line.equals("```java");
+            } else if (!line.startsWith("#") && !inFace) {
                 Check.dueText("what no test quotes of: " + line, left(line, at, quoted), "");
             }
             at += line.length() + 1;
